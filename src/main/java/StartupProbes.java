@@ -132,7 +132,7 @@ public final class StartupProbes {
             return REFUSED;
         }
         wrongNumber = 0;
-        int outcome = startIfAny(world, typeStartedBy(type, manner), 0);
+        int outcome = start(world, typeStartedBy(type, manner), 0);
         if (outcome == ANSWERED) {
             lastAnswer = useStarted(world, type, manner);
         }
@@ -208,25 +208,28 @@ public final class StartupProbes {
                 return 3;
             case IS_NOTHING_ONE:
                 return 0;
+            case MAKE:
+            case MAKE_BY_REFLECTION:
+            case LOOK_UP:
+            case LOOK_UP_STARTING:
             default:
                 return 1;
         }
     }
 
-    private int startIfAny(int world, int type, int depth) {
-        return type == NO_TYPE ? ANSWERED : start(world, type, depth);
-    }
-
     /**
-     * Starts a type: ANSWERED, or what goes wrong. The depth is how many types of the world are
-     * UNDER WAY, so that at the depth TYPES there is none left that could start.
+     * Starts a type, or NO_TYPE: ANSWERED, or what goes wrong. The depth is how many types of the
+     * world are UNDER WAY, so that at the depth TYPES there is none left that could start.
      */
     private int start(int world, int type, int depth) {
+        if (type == NO_TYPE || depth >= TYPES) {
+            return ANSWERED;
+        }
         if (states[world][type] == FAILED) {
             wrongNumber = 0;
             return LOST;
         }
-        if (states[world][type] != NEW || depth >= TYPES) {
+        if (states[world][type] != NEW) {
             return ANSWERED;
         }
         states[world][type] = UNDER_WAY;
@@ -239,8 +242,8 @@ public final class StartupProbes {
     }
 
     private int startAbove(int world, int type, int depth) {
-        int outcome = startIfAny(world, SUPERCLASS[type], depth);
-        return outcome == ANSWERED ? startIfAny(world, STARTED_INTERFACE[type], depth) : outcome;
+        int outcome = start(world, SUPERCLASS[type], depth);
+        return outcome == ANSWERED ? start(world, STARTED_INTERFACE[type], depth) : outcome;
     }
 
     private int initialize(int world, int type, int depth) {
