@@ -1,609 +1,619 @@
-/** Each promise of the document by itself: ordinary inputs, the edges it names, and wrong inputs. */
-public final class PromisesTest {
-    private static final int ROOT = 0;
-    private static final int MIDDLE = 1;
-    private static final int LEAF = 2;
-    private static final int SOLO = 3;
-    private static final int KID = 4;
-    private static final int FIRM = 5;
-    private static final int LOOSE = 6;
-    private static final int PLAIN = 7;
-
-    private static final int NOTE = 0;
-    private static final int USE = 1;
-    private static final int THROW = 2;
-    private static final int BREAK = 3;
-    private static final int TRY = 4;
-    private static final int GUARD = 5;
-
-    private static final int MAKE = 0;
-    private static final int CALL = 1;
-    private static final int READ = 2;
-    private static final int WRITE = 3;
-    private static final int MAKE_BY_REFLECTION = 12;
-
-    private static final int[] OUTSIDE = {-1, 1 << 16, Integer.MIN_VALUE, Integer.MAX_VALUE};
-
-    /** An order in which each type is started by its own use, as all those that it starts are done. */
-    private static final int[] IN_TURN = {FIRM, ROOT, MIDDLE, LEAF, SOLO, KID, LOOSE, PLAIN};
-
-    private static final Due due = new Due("PromisesTest");
-    private static StartupProbes x;
-    private static String part;
+/**
+ * The sentences of the promises, one by one: ordinary inputs, the last number that is in and the
+ * first that is out on both sides, and what a REFUSED call leaves as it was.
+ */
+public final class PromisesTest extends Bench {
+    /** What each type (a row) answers to each manner (a column) as the first call of a new object. */
+    private static final int[][] FIRST_ANSWERS = {
+        {1, 2, 1, 7, 500, 3, 1, 1, 2, 2, 2, 0, 1, 1},
+        {1, 13, 12, 7, 501, 3, 1, 1, 13, 13, 2, 0, 1, 12},
+        {1, 25, 24, 7, 502, 3, 1, 1, 25, 25, 2, 0, 1, 24},
+        {1, 32, 31, 7, 503, 3, 1, 1, 32, 32, 2, 0, 1, 31},
+        {1, 44, 43, 7, 504, 3, 1, 1, 44, 44, 2, 0, 1, 43},
+        {REFUSED, 52, 51, REFUSED, 505, 3, 1, 1, 52, 52, 2, 0, REFUSED, 51},
+        {REFUSED, 62, 61, REFUSED, 506, 3, 1, 1, 62, 62, 2, 0, REFUSED, 61},
+        {REFUSED, 72, 71, REFUSED, 507, 3, 1, 1, 72, 72, 2, 0, REFUSED, 71},
+    };
 
     public static void main(String[] args) {
-        promise1NewObject();
-        promise2Order();
-        promise3NoOrders();
-        promise4Build();
-        promise5Starts();
-        promise5Orders();
-        promise5Manners();
-        promise5Refusals();
-        promise6Answer();
-        promise7Wrong();
-        promise8Events();
-        promise9Event();
-        due.end();
+        hold("PromisesTest", PromisesTest::sentences);
     }
 
-    private static void promise1NewObject() {
-        fresh("1 new object");
-        is("answer", x.answer(), 0);
-        is("wrong", x.wrong(), 0);
+    private static void sentences() {
+        newObjectPrograms();
+        newObjectWorlds();
+        newObjectProbes();
+        newObjectBesideAnother();
+        orderTypes();
+        orderOrders();
+        orderAnyNumber();
+        orderWithFive();
+        orderIsForLaterStarts();
+        noOrdersOfEachLength();
+        noOrdersLeavesTheRest();
+        noOrdersRefused();
+        buildOfNothingStarted();
+        buildOfDoneAndFailed();
+        buildForgetsEvents();
+        buildAsOftenAsAsked();
+        buildRefused();
+        probeOutcomes();
+        probeMannersInRange();
+        probeNumbersOutOfRange();
+        probeMannerNotForTheType();
+        answerBeforeTheFirst();
+        answerBehindWrongAndRefused();
+        answerOfZero();
+        wrongBeforeTheFirst();
+        wrongOfThrowAndBreak();
+        wrongOfLostAndAnswered();
+        wrongBehindRefused();
+        eventsCounted();
+        eventsRefused();
+        eventOfEachCount();
+        eventMayBeRefusedToo();
+        eventRefused();
+    }
+
+    // Promise 1: "makes an object in the state that the terms give"
+
+    private static void newObjectPrograms() {
+        for (int type = 0; type < 8; type++) {
+            for (int order = NOTE; order <= GUARD; order++) {
+                fresh("1 new object: order");
+                is("order(" + type + ", " + order + ", 1)", x.order(type, order, 1), 1);
+            }
+            fresh("1 new object: noOrders");
+            is("noOrders(" + type + ")", x.noOrders(type), 0);
+        }
+    }
+
+    private static void newObjectWorlds() {
+        fresh("1 new object: answer");
+        is("answer()", x.answer(), 0);
+        fresh("1 new object: wrong");
+        is("wrong()", x.wrong(), 0);
         for (int world = 0; world < 2; world++) {
+            fresh("1 new object: build");
+            is("build(" + world + ")", x.build(world), 0);
+            fresh("1 new object: events");
+            is("events(" + world + ")", x.events(world), 0);
+            for (int i = 0; i < 32; i++) {
+                fresh("1 new object: event");
+                is("event(" + world + ", " + i + ")", x.event(world, i), REFUSED);
+            }
+        }
+    }
+
+    private static void newObjectProbes() {
+        for (int world = 0; world < 2; world++) {
+            for (int type = 0; type < 8; type++) {
+                for (int manner = 0; manner <= 13; manner++) {
+                    fresh("1 new object: probe");
+                    firstProbe(world, type, manner, FIRST_ANSWERS[type][manner]);
+                }
+            }
+        }
+    }
+
+    private static void firstProbe(int world, int type, int manner, int answer) {
+        if (answer == REFUSED) {
+            is("probe(" + world + ", " + type + ", " + manner + ")", x.probe(world, type, manner), REFUSED);
+            is("answer()", x.answer(), 0);
             events(world);
-            is("event", x.event(world, 0), -1);
+        } else {
+            probe(world, type, manner, answer);
+            events(world, eventsOfFirst(type, manner));
         }
+        events(1 - world);
+    }
+
+    private static int[] eventsOfFirst(int type, int manner) {
+        for (int notStarting : NOT_STARTING) {
+            if (manner == notStarting) {
+                return new int[0];
+            }
+        }
+        return FIRST_START[manner == AS_LEAF ? ROOT : type];
+    }
+
+    private static void newObjectBesideAnother() {
+        Counted other = inUse();
+        fresh("1 new object, beside another");
+        same("what is seen of a new object", sightOf(x), sightOf(newObject()));
+        same("what is seen of the other", sightOf(other), sightOf(inUse()));
+    }
+
+    // Promise 2: "One more ORDER of a type's program, order 0 .. 5, any number: how many it has.
+    // REFUSED for numbers out of range; -2 with 5."
+
+    private static void orderTypes() {
+        fresh("2 order: types 0 .. 7");
+        for (int n = 1; n <= 5; n++) {
+            for (int type = 0; type < 8; type++) {
+                is("order " + n + " of the type " + type, x.order(type, NOTE, 0), n);
+            }
+        }
+        for (int type : NO_TYPES) {
+            fresh("2 order: REFUSED for numbers out of range, type");
+            for (int order = NOTE; order <= GUARD; order++) {
+                int given = order;
+                refused("order(" + type + ", " + order + ", 0)", probes -> probes.order(type, given, 0));
+            }
+        }
+    }
+
+    private static void orderOrders() {
+        for (int order = NOTE; order <= GUARD; order++) {
+            fresh("2 order: order 0 .. 5");
+            for (int n = 1; n <= 5; n++) {
+                is("order(4, " + order + ", 3)", x.order(KID, order, 3), n);
+            }
+        }
+        for (int order : NO_ORDERS) {
+            fresh("2 order: REFUSED for numbers out of range, order");
+            for (int type = 0; type < 8; type++) {
+                int given = type;
+                refused("order(" + type + ", " + order + ", 0)", probes -> probes.order(given, order, 0));
+            }
+            refused("order(8, " + order + ", 0)", probes -> probes.order(8, order, 0));
+        }
+    }
+
+    private static void orderAnyNumber() {
+        for (int number : ANY_NUMBERS) {
+            for (int order = NOTE; order <= GUARD; order++) {
+                fresh("2 order: any number");
+                is("order(7, " + order + ", " + number + ")", x.order(PLAIN, order, number), 1);
+            }
+            fresh("2 order: any number is kept");
+            x.order(PLAIN, GUARD, number);
+            x.order(PLAIN, NOTE, number);
+            x.order(PLAIN, THROW, number);
+            goesWrong(0, PLAIN, READ, WRAPPED, number);
+            events(0, 107, number, number);
+        }
+    }
+
+    private static void orderWithFive() {
         for (int type = 0; type < 8; type++) {
-            is("noOrders " + type, x.noOrders(type), 0);
+            fresh("2 order: -2 with 5, type " + type);
+            for (int n = 1; n <= 5; n++) {
+                is("order " + n, x.order(type, NOTE, n), n);
+            }
+            for (int order = NOTE; order <= GUARD; order++) {
+                is("a sixth of order " + order, x.order(type, order, 6), FULL);
+            }
+            is("a sixth that is out of range", x.order(type, 6, 6), REFUSED);
+            is("a sixth that is out of range", x.order(type, -1, 6), REFUSED);
+            is("one of another type", x.order((type + 1) & 7, NOTE, 6), 1);
+            is("noOrders", x.noOrders(type), 5);
+            is("the first again", x.order(type, NOTE, 6), 1);
         }
-        for (int type = 0; type < 8; type++) {
-            fresh("1 new object, type " + type);
-            is("probe", x.probe(1, type, READ), 0);
-            is("the type was NEW", x.event(1, 0), 100 + type);
-            events(0);
+        fresh("2 order: -2 changes nothing");
+        for (int order = NOTE; order <= GUARD; order++) {
+            int given = order;
+            changesNothing("order(2, " + order + ", 9) with 5", FULL, probes -> probes.order(LEAF, given, 9));
         }
-        StartupProbes other = new StartupProbes();
-        other.order(ROOT, THROW, 5);
-        other.probe(0, ROOT, READ);
-        fresh("1 beside another object");
+    }
+
+    private static void orderIsForLaterStarts() {
+        fresh("2 order: for starts to come");
+        probe(0, ROOT, READ, 1);
+        is("order", x.order(ROOT, NOTE, 5), 1);
         probe(0, ROOT, READ, 1);
         events(0, 100);
-        is("wrong of the other", other.wrong(), 5);
+        probe(1, ROOT, READ, 2);
+        events(1, 100, 5);
+        is("order", x.order(ROOT, NOTE, 6), 2);
+        x.build(0);
+        probe(0, ROOT, READ, 3);
+        events(0, 100, 5, 6);
     }
 
-    private static void promise2Order() {
+    // Promise 3: "The type's program is empty: how many ORDERS it had. REFUSED for others."
+
+    private static void noOrdersOfEachLength() {
         for (int type = 0; type < 8; type++) {
-            fresh("2 order, type " + type);
-            for (int n = 1; n <= 5; n++) {
-                is("order " + n, x.order(type, NOTE, 40 + n), n);
+            for (int length = 0; length <= 5; length++) {
+                fresh("3 noOrders: how many it had, type " + type);
+                for (int n = 0; n < length; n++) {
+                    x.order(type, n == 0 ? GUARD : THROW, n);
+                }
+                is("noOrders with " + length, x.noOrders(type), length);
+                is("noOrders again", x.noOrders(type), 0);
+                x.probe(0, type, READ);
+                events(0, FIRST_START[type]);
+                is("order after it", x.order(type, NOTE, 9), 1);
+                is("noOrders after that", x.noOrders(type), 1);
             }
-            is("a sixth", x.order(type, NOTE, 99), -2);
-            is("a sixth GUARD", x.order(type, GUARD, 99), -2);
-            is("a wrong sixth", x.order(type, 6, 99), -1);
-            x.probe(0, type, READ);
-            for (int i = 0; i < 5; i++) {
-                is("event " + i, x.event(0, i), 45 - i);
-            }
-            is("event 5", x.event(0, 5), 100 + type);
-            is("the other types have none", x.noOrders((type + 1) & 7), 0);
         }
-        fresh("2 order, wrong inputs");
-        for (int wrong : OUTSIDE) {
-            is("type " + wrong, x.order(wrong, NOTE, 0), -1);
-            is("order " + wrong, x.order(ROOT, wrong, 0), -1);
-        }
-        is("type 8", x.order(8, NOTE, 0), -1);
-        is("order 6", x.order(ROOT, 6, 0), -1);
-        is("none was taken", x.noOrders(ROOT), 0);
-        for (int order = 0; order < 5; order++) {
-            is("order " + order, x.order(PLAIN, order, Integer.MIN_VALUE), order + 1);
-        }
-        is("order 5", x.order(LOOSE, GUARD, Integer.MAX_VALUE), 1);
     }
 
-    private static void promise3NoOrders() {
-        fresh("3 noOrders");
+    private static void noOrdersLeavesTheRest() {
+        fresh("3 noOrders: of an empty program");
+        changesNothing("noOrders(1)", 0, probes -> probes.noOrders(MIDDLE));
+        changesNothing("noOrders(3)", 0, probes -> probes.noOrders(SOLO));
+        fresh("3 noOrders: the programs of others stay");
         for (int type = 0; type < 8; type++) {
             x.order(type, NOTE, 1);
             x.order(type, NOTE, 2);
         }
-        x.order(FIRM, NOTE, 3);
-        is("noOrders", x.noOrders(FIRM), 3);
-        is("again", x.noOrders(FIRM), 0);
-        is("another", x.noOrders(LOOSE), 2);
-        is("type 8", x.noOrders(8), -1);
-        for (int wrong : OUTSIDE) {
-            is("type " + wrong, x.noOrders(wrong), -1);
-        }
-        probe(0, FIRM, READ, 51);
-        events(0, 105);
+        is("noOrders", x.noOrders(FIRM), 2);
         is("order after it", x.order(FIRM, NOTE, 9), 1);
-        probe(1, FIRM, READ, 52);
-        events(1, 105, 9);
-        probe(1, PLAIN, READ, 75);
-        events(1, 105, 9, 107, 1, 2);
-        fresh("3 noOrders, no GUARD is left");
-        x.order(ROOT, GUARD, 8);
-        x.order(ROOT, THROW, 8);
-        x.noOrders(ROOT);
-        x.order(ROOT, NOTE, 6);
-        probe(0, ROOT, READ, 2);
-        events(0, 100, 6);
-    }
-
-    private static void promise4Build() {
-        fresh("4 build");
-        x.order(MIDDLE, BREAK, 21);
-        goesWrong(0, MIDDLE, READ, 2, 21);
-        goesWrong(1, MIDDLE, READ, 2, 21);
-        probe(0, SOLO, WRITE, 7);
-        is("build", x.build(0), 0);
-        events(0);
-        is("event", x.event(0, 0), -1);
-        events(1, 100, 101);
-        is("answer stays", x.answer(), 7);
-        goesWrong(1, MIDDLE, READ, 3, 0);
-        goesWrong(0, MIDDLE, READ, 2, 21);
-        is("build", x.build(1), 0);
-        is("wrong stays", x.wrong(), 21);
-        probe(0, SOLO, READ, 33);
-        events(0, 100, 101, 103);
-        is("world 2", x.build(2), -1);
-        for (int wrong : OUTSIDE) {
-            is("world " + wrong, x.build(wrong), -1);
-        }
-        events(0, 100, 101, 103);
-        fresh("4 build, VALUE is 0 again");
-        probe(0, ROOT, READ, 1);
-        x.order(ROOT, USE, ROOT);
-        x.build(0);
-        probe(0, ROOT, READ, 2);
-        events(0, 100, 0);
-        for (int again = 0; again < 20; again++) {
-            is("build again", x.build(0), 0);
-            probe(0, ROOT, READ, 2);
-            events(0, 100, 0);
-        }
-    }
-
-    private static void promise5Starts() {
-        starts(ROOT, 100);
-        starts(MIDDLE, 100, 101);
-        starts(LEAF, 100, 101, 105, 102);
-        starts(SOLO, 103);
-        starts(KID, 103, 105, 104);
-        starts(FIRM, 105);
-        starts(LOOSE, 106);
-        starts(PLAIN, 107);
-        onceStarted();
-        wrongAbove();
-        wrongInside();
-        roundAndRound();
-        allUnderWayAtOnce();
-    }
-
-    private static void starts(int type, int... events) {
-        fresh("5 starts of " + type);
-        probe(0, type, READ, 10 * type + events.length);
-        events(0, events);
-        probe(0, type, READ, 10 * type + events.length);
-        events(0, events);
-        events(1);
-    }
-
-    private static void onceStarted() {
-        fresh("5 what is done is not started again");
-        probe(0, FIRM, READ, 51);
-        probe(0, MIDDLE, READ, 13);
-        probe(0, LEAF, READ, 24);
-        probe(0, KID, READ, 46);
-        events(0, 105, 100, 101, 102, 103, 104);
-        probe(1, KID, READ, 43);
-        probe(1, LEAF, READ, 26);
-        events(1, 103, 105, 104, 100, 101, 102);
-    }
-
-    private static void wrongAbove() {
-        fresh("5 a superclass goes wrong");
-        x.order(ROOT, THROW, 17);
-        goesWrong(0, LEAF, MAKE, 1, 17);
-        events(0, 100);
-        goesWrong(0, LEAF, MAKE, 3, 0);
-        goesWrong(0, MIDDLE, MAKE, 3, 0);
-        goesWrong(0, ROOT, MAKE, 3, 0);
-        events(0, 100);
-        probe(0, FIRM, READ, 52);
-        goesWrong(1, MIDDLE, MAKE, 1, 17);
-        goesWrong(1, LEAF, MAKE, 3, 0);
-        probe(1, FIRM, READ, 52);
-        fresh("5 an interface goes wrong");
-        x.order(FIRM, BREAK, 18);
-        goesWrong(0, LEAF, MAKE, 2, 18);
-        events(0, 100, 101, 105);
-        goesWrong(0, KID, MAKE, 3, 0);
-        events(0, 100, 101, 105, 103);
-        probe(0, MIDDLE, CALL, 13);
-        probe(0, SOLO, CALL, 35);
-        probe(0, LOOSE, READ, 65);
-        fresh("5 an interface that is not started does no harm");
-        x.order(LOOSE, BREAK, 1);
-        x.order(PLAIN, BREAK, 2);
-        probe(0, LEAF, MAKE, 1);
-        probe(0, KID, MAKE, 1);
-        fresh("5 one that has failed stays so with another program");
-        x.order(SOLO, THROW, 3);
-        goesWrong(0, SOLO, READ, 1, 3);
-        x.noOrders(SOLO);
-        goesWrong(0, SOLO, READ, 3, 0);
-        goesWrong(0, KID, READ, 3, 0);
-        probe(1, KID, READ, 43);
-    }
-
-    private static void wrongInside() {
-        fresh("5 WRAPPED is not wrapped again");
-        x.order(PLAIN, USE, LOOSE);
-        x.order(PLAIN, NOTE, 1);
-        x.order(LOOSE, THROW, -5);
-        goesWrong(0, PLAIN, READ, 1, -5);
-        events(0, 107, 106);
-        goesWrong(0, PLAIN, READ, 3, 0);
-        fresh("5 BROKEN goes through");
-        x.order(PLAIN, USE, LOOSE);
-        x.order(LOOSE, BREAK, Integer.MIN_VALUE);
-        goesWrong(0, PLAIN, READ, 2, Integer.MIN_VALUE);
-        fresh("5 LOST goes through");
-        x.order(LOOSE, THROW, 4);
-        goesWrong(0, LOOSE, READ, 1, 4);
-        x.order(PLAIN, USE, LOOSE);
-        goesWrong(0, PLAIN, READ, 3, 0);
-        events(0, 106, 107);
-    }
-
-    private static void roundAndRound() {
-        fresh("5 a type that uses itself");
-        x.order(ROOT, USE, ROOT);
-        x.order(ROOT, TRY, ROOT);
-        probe(0, ROOT, READ, 3);
-        events(0, 100, 0, 0);
-        fresh("5 a superclass that uses its subclass");
-        x.order(ROOT, USE, MIDDLE);
-        probe(0, ROOT, READ, 3);
-        events(0, 100, 101, 12);
-        probe(1, MIDDLE, READ, 13);
-        events(1, 100, 0, 101);
-        fresh("5 a subclass that fails under its superclass");
-        x.order(SOLO, TRY, KID);
-        x.order(KID, USE, SOLO);
-        x.order(KID, THROW, 64 + 7);
-        probe(0, SOLO, READ, 35);
-        events(0, 103, 105, 104, 0, 1107);
-        goesWrong(0, KID, READ, 3, 0);
-    }
-
-    private static void allUnderWayAtOnce() {
-        fresh("5 all eight under way at once");
-        x.order(PLAIN, USE, LOOSE);
-        x.order(LOOSE, USE, LEAF);
-        x.order(ROOT, USE, FIRM);
-        x.order(FIRM, USE, KID);
-        for (int type = 0; type < 5; type++) {
-            x.order(SOLO, USE, 2 * type);
-        }
-        probe(0, PLAIN, READ, 87);
-        events(0, 107, 106, 100, 105, 103, 0, 0, 0, 0, 0, 104, 51, 62, 101, 102, 35, 76);
-    }
-
-    private static void promise5Orders() {
-        fresh("5 NOTE and USE");
-        x.order(SOLO, NOTE, -1);
-        x.order(SOLO, USE, 8 + PLAIN);
-        x.order(SOLO, USE, -3);
-        x.order(SOLO, NOTE, Integer.MIN_VALUE);
-        probe(0, SOLO, READ, 37);
-        events(0, 103, -1, 107, 73, 105, 55, Integer.MIN_VALUE);
-        for (int number : new int[] {0, 1, 63, 64, 70, -1, Integer.MIN_VALUE, Integer.MAX_VALUE}) {
-            tried(THROW, number, 1100 + Math.floorMod(number, 64));
-            tried(BREAK, number, 1200 + Math.floorMod(number, 64));
-        }
-        fresh("5 TRY of what is LOST, and of what answers");
-        x.order(FIRM, BREAK, 50);
-        goesWrong(0, FIRM, READ, 2, 50);
-        x.order(ROOT, TRY, FIRM);
-        x.order(ROOT, TRY, -1);
-        probe(0, ROOT, READ, 5);
-        events(0, 105, 100, 1300, 107, 74);
-        fresh("5 TRY, and then THROW all the same");
-        x.order(FIRM, BREAK, 50);
-        x.order(ROOT, TRY, FIRM);
-        x.order(ROOT, THROW, 51);
-        goesWrong(0, ROOT, READ, 1, 51);
-        events(0, 100, 105, 1250);
-        guards();
-    }
-
-    private static void tried(int order, int number, int event) {
-        fresh("5 TRY with " + order + " " + number);
-        x.order(ROOT, TRY, 16 + PLAIN);
-        x.order(PLAIN, order, number);
-        probe(0, ROOT, READ, 3);
-        events(0, 100, 107, event);
-        goesWrong(0, PLAIN, READ, 3, 0);
-        goesWrong(1, PLAIN, READ, order == THROW ? 1 : 2, number);
-    }
-
-    private static void guards() {
-        fresh("5 GUARD when nothing goes wrong");
-        x.order(PLAIN, GUARD, 1);
-        x.order(PLAIN, NOTE, 2);
-        x.order(PLAIN, GUARD, 3);
-        x.order(PLAIN, NOTE, 4);
-        x.order(PLAIN, GUARD, 5);
-        probe(0, PLAIN, READ, 76);
-        events(0, 107, 2, 4, 5, 3, 1);
-        fresh("5 GUARD, but not behind what goes wrong");
-        x.order(PLAIN, GUARD, 1);
-        x.order(PLAIN, GUARD, 2);
-        x.order(PLAIN, USE, LOOSE);
-        x.order(PLAIN, GUARD, 3);
-        x.order(LOOSE, GUARD, 4);
-        x.order(LOOSE, BREAK, 90);
-        x.order(LOOSE, NOTE, 5);
-        x.order(LOOSE, GUARD, 6);
-        goesWrong(0, PLAIN, READ, 2, 90);
-        events(0, 107, 106, 4, 2, 1);
-        fresh("5 no GUARD where the superclass goes wrong");
-        x.order(MIDDLE, GUARD, 1);
-        x.order(ROOT, THROW, 2);
-        goesWrong(0, MIDDLE, READ, 1, 2);
-        events(0, 100);
-    }
-
-    private static void promise5Manners() {
+        probe(0, KID, READ, 48);
+        events(0, 103, 1, 2, 105, 9, 104, 1, 2);
         for (int type = 0; type < 8; type++) {
-            boolean isClass = type <= KID;
-            int value = valueOfFirstStart(type);
-            manner(type, 0, isClass, true, 1);
-            manner(type, 1, true, true, value + 1);
-            manner(type, 2, true, true, value);
-            manner(type, 3, isClass, true, 7);
-            manner(type, 4, true, false, 500 + type);
-            manner(type, 5, true, false, 3);
-            manner(type, 6, true, false, 1);
-            manner(type, 7, true, true, 1);
-            manner(type, 8, true, true, value + 1);
-            manner(type, 9, true, true, value + 1);
-            manner(type, 11, true, false, 0);
-            manner(type, 12, isClass, true, 1);
-            manner(type, 13, true, true, value);
-            rootAsLeaf(type);
+            is("noOrders(" + type + ")", x.noOrders(type), type == FIRM ? 1 : 2);
         }
-        written();
+        fresh("3 noOrders: what was started stays");
+        x.order(FIRM, GUARD, 3);
+        x.order(LOOSE, BREAK, 4);
+        probe(0, FIRM, READ, 52);
+        goesWrong(0, LOOSE, READ, BROKEN, 4);
+        is("noOrders", x.noOrders(FIRM), 1);
+        is("noOrders", x.noOrders(LOOSE), 1);
+        is("wrong stays", x.wrong(), 4);
+        probe(0, FIRM, READ, 52);
+        goesWrong(0, LOOSE, READ, LOST, 0);
+        events(0, 105, 3, 106);
     }
 
-    private static int valueOfFirstStart(int type) {
-        StartupProbes probes = new StartupProbes();
-        probes.probe(0, type, READ);
-        return 10 * type + probes.events(0);
-    }
-
-    private static void manner(int type, int manner, boolean isFor, boolean starts, int answer) {
-        fresh("5 type " + type + ", manner " + manner);
-        if (!isFor) {
-            is("probe", x.probe(0, type, manner), -1);
-            events(0);
-            return;
-        }
-        probe(0, type, manner, answer);
-        is("started", x.events(0) > 0 ? 1 : 0, starts ? 1 : 0);
-        if (starts) {
-            is("event", x.event(0, 0), 100 + type);
-        }
-        x.order(type, THROW, 88);
-        if (starts) {
-            goesWrong(1, type, manner, 1, 88);
-            goesWrong(1, type, manner, 3, 0);
-        } else {
-            probe(1, type, manner, answer);
-            goesWrong(1, type, READ, 1, 88);
-            probe(1, type, manner, answer);
+    private static void noOrdersRefused() {
+        fresh("3 noOrders: REFUSED for others");
+        for (int type : NO_TYPES) {
+            refused("noOrders(" + type + ")", probes -> probes.noOrders(type));
         }
     }
 
-    private static void rootAsLeaf(int type) {
-        fresh("5 type " + type + ", manner 10");
-        probe(0, type, 10, 2);
-        events(0, 100);
-        probe(0, ROOT, WRITE, 7);
-        probe(0, type, 10, 8);
-        x.order(ROOT, BREAK, 12);
-        goesWrong(1, type, 10, 2, 12);
-        goesWrong(1, type, 10, 3, 0);
-    }
+    // Promise 4: "The world is built anew: all its types NEW, with VALUE 0, no EVENTS: 0. REFUSED for others."
 
-    private static void written() {
-        for (int type = 0; type <= KID; type++) {
-            fresh("5 written, type " + type);
-            probe(0, type, WRITE, 7);
-            int events = x.events(0);
-            probe(0, type, READ, 7);
-            probe(0, type, 13, 7);
-            probe(0, type, CALL, 8);
-            probe(0, type, 8, 8);
-            probe(0, type, 9, 8);
-            probe(0, type, MAKE, 1);
-            is("events", x.events(0), events);
-            probe(1, type, READ, 10 * type + events);
-            x.order(PLAIN, USE, type);
-            probe(0, PLAIN, READ, 72 + events);
-            is("event", x.event(0, 0), 7);
+    private static void buildOfNothingStarted() {
+        for (int world = 0; world < 2; world++) {
+            fresh("4 build: a world in which nothing was started");
+            Counted probes = programmed();
+            is("build(" + world + ")", probes.build(world), 0);
+            is("build(" + world + ")", probes.build(world), 0);
+            same("what is seen then", sightOf(probes), sightOf(programmed()));
         }
     }
 
-    private static void promise5Refusals() {
-        fresh("5 refusals");
-        x.order(PLAIN, THROW, 77);
-        probe(0, ROOT, CALL, 2);
-        goesWrong(0, PLAIN, CALL, 1, 77);
-        is("world 2", x.probe(2, ROOT, CALL), -1);
-        is("type 8", x.probe(0, 8, CALL), -1);
-        is("type 8 by manner 10", x.probe(0, 8, 10), -1);
-        is("manner 14", x.probe(0, ROOT, 14), -1);
-        for (int wrong : OUTSIDE) {
-            is("world " + wrong, x.probe(wrong, ROOT, CALL), -1);
-            is("type " + wrong, x.probe(0, wrong, CALL), -1);
-            is("type " + wrong + " to MAKE", x.probe(0, wrong, MAKE), -1);
-            is("manner " + wrong, x.probe(0, ROOT, wrong), -1);
+    private static void buildOfDoneAndFailed() {
+        for (int world = 0; world < 2; world++) {
+            fresh("4 build: types were DONE and FAILED in world " + world);
+            Counted built = inUse();
+            is("build", built.build(world), 0);
+            is("answer stays", built.answer(), inUse().answer());
+            is("wrong stays", built.wrong(), inUse().wrong());
+            same("the world", sightOf(built, world), sightOf(programmed(), world));
+            same("the other world", sightOf(built, 1 - world), sightOf(inUse(), 1 - world));
         }
-        for (int type = FIRM; type <= PLAIN; type++) {
-            is("MAKE " + type, x.probe(0, type, MAKE), -1);
-            is("WRITE " + type, x.probe(0, type, WRITE), -1);
-            is("MAKE by reflection " + type, x.probe(0, type, MAKE_BY_REFLECTION), -1);
+        for (int type = 0; type < 8; type++) {
+            fresh("4 build: NEW, with VALUE 0, type " + type);
+            x.order(type, USE, type);
+            int value = 10 * type + FIRST_START[type].length + 1;
+            probe(0, type, READ, value);
+            probe(1, type, CALL, value + 1);
+            is("build", x.build(0), 0);
+            probe(0, type, READ, value);
+            is("the VALUE was 0 again", x.event(0, 0), 0);
+            x.order(type, THROW, 5);
+            x.build(0);
+            goesWrong(0, type, READ, WRAPPED, 5);
+            goesWrong(0, type, READ, LOST, 0);
+            x.build(0);
+            goesWrong(0, type, READ, WRAPPED, 5);
+            x.noOrders(type);
+            x.build(0);
+            probe(0, type, READ, value - 1);
+            probe(1, type, READ, value);
         }
-        is("answer stays", x.answer(), 2);
-        is("wrong stays", x.wrong(), 77);
-        events(0, 100, 107);
     }
 
-    private static void promise6Answer() {
-        fresh("6 answer");
-        x.order(PLAIN, THROW, 1);
-        is("refused", x.probe(0, PLAIN, MAKE), -1);
-        is("answer before the first", x.answer(), 0);
-        goesWrong(0, PLAIN, READ, 1, 1);
-        is("answer before the first", x.answer(), 0);
-        probe(0, FIRM, 4, 505);
-        goesWrong(0, PLAIN, READ, 3, 0);
-        is("answer of the last ANSWERED", x.answer(), 505);
+    private static void buildForgetsEvents() {
+        for (int world = 0; world < 2; world++) {
+            fresh("4 build: no EVENTS, world " + world);
+            noteEvents(world, MOST_EVENTS);
+            is("build", x.build(world), 0);
+            is("events", x.events(world), 0);
+            for (int i = 0; i < 32; i++) {
+                is("event " + i, x.event(world, i), REFUSED);
+            }
+            x.noOrders(LOOSE);
+            probe(world, LOOSE, READ, 61);
+            is("events", x.events(world), 1);
+            is("event 0", x.event(world, 0), 106);
+            for (int i = 1; i < 32; i++) {
+                is("event " + i, x.event(world, i), REFUSED);
+            }
+        }
+    }
+
+    private static void buildAsOftenAsAsked() {
+        fresh("4 build: as often as asked");
+        x.order(ROOT, THROW, 7);
+        while (x.callsLeft() > 10) {
+            is("build(0)", x.build(0), 0);
+            is("build(1)", x.build(1), 0);
+            goesWrong(0, MIDDLE, READ, WRAPPED, 7);
+            events(0, 100);
+        }
+    }
+
+    private static void buildRefused() {
+        fresh("4 build: REFUSED for others");
+        for (int world : NO_WORLDS) {
+            refused("build(" + world + ")", probes -> probes.build(world));
+        }
+    }
+
+    // Promise 5: "Uses a type in a world by a MANNER 0 .. 13: ANSWERED, or what goes wrong: WRAPPED, BROKEN,
+    // LOST. REFUSED for numbers out of range, and a manner that is not for the type."
+
+    private static void probeOutcomes() {
+        for (int world = 0; world < 2; world++) {
+            fresh("5 probe: how it goes");
+            x.order(MIDDLE, THROW, 1);
+            x.order(SOLO, BREAK, 1);
+            is("ANSWERED", x.probe(world, ROOT, MAKE), StartupProbes.ANSWERED);
+            is("WRAPPED", x.probe(world, LEAF, MAKE), StartupProbes.WRAPPED);
+            is("BROKEN", x.probe(world, KID, MAKE), StartupProbes.BROKEN);
+            is("LOST", x.probe(world, LEAF, MAKE), StartupProbes.LOST);
+            is("LOST", x.probe(world, SOLO, MAKE), StartupProbes.LOST);
+            is("REFUSED", x.probe(world, FIRM, MAKE), StartupProbes.REFUSED);
+            events(world, 100, 101, 103);
+            events(1 - world);
+        }
+    }
+
+    private static void probeMannersInRange() {
+        for (int type = 0; type < 8; type++) {
+            fresh("5 probe: a MANNER 0 .. 13, type " + type);
+            for (int manner = 0; manner <= 13; manner++) {
+                int want = FIRST_ANSWERS[type][manner] == REFUSED ? REFUSED : ANSWERED;
+                is("manner " + manner, x.probe(0, type, manner), want);
+                is("manner " + manner + " in world 1", x.probe(1, type, manner), want);
+            }
+        }
+    }
+
+    private static void probeNumbersOutOfRange() {
+        fresh("5 probe: REFUSED for numbers out of range");
+        for (int manner = 0; manner <= 13; manner++) {
+            int given = manner;
+            for (int world : NO_WORLDS) {
+                refused("probe(" + world + ", 2, " + manner + ")", probes -> probes.probe(world, LEAF, given));
+            }
+            for (int type : NO_TYPES) {
+                refused("probe(0, " + type + ", " + manner + ")", probes -> probes.probe(0, type, given));
+            }
+        }
+        for (int manner : NO_MANNERS) {
+            for (int type = 0; type < 8; type++) {
+                int given = type;
+                refused("probe(1, " + type + ", " + manner + ")", probes -> probes.probe(1, given, manner));
+            }
+        }
+        refused("probe(-1, 8, 14)", probes -> probes.probe(-1, 8, 14));
+        refused("probe(2, -1, -1)", probes -> probes.probe(2, -1, -1));
+        refused("probe(2, 5, 0)", probes -> probes.probe(2, FIRM, MAKE));
+    }
+
+    private static void probeMannerNotForTheType() {
+        fresh("5 probe: REFUSED for a manner that is not for the type");
+        for (int manner : new int[] {MAKE, WRITE, MAKE_BY_REFLECTION}) {
+            for (int type = FIRM; type <= PLAIN; type++) {
+                int given = type;
+                refused("probe(0, " + type + ", " + manner + ")", probes -> probes.probe(0, given, manner));
+                refused("probe(1, " + type + ", " + manner + ")", probes -> probes.probe(1, given, manner));
+            }
+            is("manner " + manner + " of the last class", newObject().probe(0, KID, manner), ANSWERED);
+        }
+    }
+
+    // Promise 6: "The answer of the last probe that was ANSWERED; 0 before the first."
+
+    private static void answerBeforeTheFirst() {
+        fresh("6 answer: 0 before the first");
+        is("answer()", x.answer(), 0);
+        x.order(PLAIN, THROW, 11);
+        x.order(LOOSE, BREAK, 12);
+        is("REFUSED", x.probe(0, PLAIN, MAKE), REFUSED);
+        is("answer() behind REFUSED", x.answer(), 0);
+        goesWrong(0, PLAIN, CALL, WRAPPED, 11);
+        is("answer() behind WRAPPED", x.answer(), 0);
+        goesWrong(0, LOOSE, CALL, BROKEN, 12);
+        is("answer() behind BROKEN", x.answer(), 0);
+        goesWrong(0, PLAIN, CALL, LOST, 0);
+        is("answer() behind LOST", x.answer(), 0);
+        probe(0, FIRM, READ, 53);
+    }
+
+    private static void answerBehindWrongAndRefused() {
+        fresh("6 answer: of the last probe that was ANSWERED");
+        probe(1, FIRM, CONSTANT, 505);
+        x.order(PLAIN, THROW, 11);
+        x.order(LOOSE, BREAK, 12);
+        is("WRAPPED", x.probe(0, PLAIN, CALL), WRAPPED);
+        is("answer() behind WRAPPED", x.answer(), 505);
+        is("BROKEN", x.probe(0, LOOSE, CALL), BROKEN);
+        is("answer() behind BROKEN", x.answer(), 505);
+        is("LOST", x.probe(0, LOOSE, CALL), LOST);
+        is("answer() behind LOST", x.answer(), 505);
+        is("REFUSED", x.probe(0, PLAIN, WRITE), REFUSED);
+        is("REFUSED", x.probe(0, PLAIN, 14), REFUSED);
+        is("answer() behind REFUSED", x.answer(), 505);
         x.build(0);
+        x.build(1);
         x.noOrders(PLAIN);
-        x.order(PLAIN, NOTE, 3);
-        is("answer of the last ANSWERED", x.answer(), 505);
-        probe(1, PLAIN, READ, 72);
-        is("asked again", x.answer(), 72);
-        probe(0, PLAIN, 11, 0);
+        is("answer() behind build and noOrders", x.answer(), 505);
+        probe(1, PLAIN, READ, 71);
+        is("answer() asked again", x.answer(), 71);
+        changesNothing("answer()", inUse().answer(), Counted::answer);
     }
 
-    private static void promise7Wrong() {
-        for (int number : new int[] {1, 64, -1, Integer.MIN_VALUE, Integer.MAX_VALUE}) {
-            fresh("7 wrong, " + number);
+    private static void answerOfZero() {
+        fresh("6 answer: an answer may be 0");
+        probe(0, FIRM, CONSTANT, 505);
+        probe(0, FIRM, IS_NOTHING_ONE, 0);
+        fresh("6 answer: what a program uses is not the probe's answer");
+        x.order(ROOT, USE, PLAIN);
+        x.order(ROOT, BREAK, 1);
+        probe(0, FIRM, CONSTANT, 505);
+        goesWrong(0, ROOT, READ, BROKEN, 1);
+        events(0, 100, 107, 72);
+    }
+
+    // Promise 7: "The number of what went wrong in the last probe that was not REFUSED: that of THROW or
+    // BREAK; 0 for LOST, and if it was ANSWERED, and before the first."
+
+    private static void wrongBeforeTheFirst() {
+        fresh("7 wrong: 0 before the first");
+        is("wrong()", x.wrong(), 0);
+        x.order(ROOT, THROW, 5);
+        x.build(0);
+        is("wrong() behind order and build", x.wrong(), 0);
+        is("REFUSED", x.probe(0, 8, READ), REFUSED);
+        is("wrong() behind REFUSED", x.wrong(), 0);
+        is("WRAPPED", x.probe(0, ROOT, READ), WRAPPED);
+        is("wrong()", x.wrong(), 5);
+        is("wrong() asked again", x.wrong(), 5);
+        changesNothing("wrong()", 77, Counted::wrong);
+    }
+
+    private static void wrongOfThrowAndBreak() {
+        for (int number : ANY_NUMBERS) {
+            fresh("7 wrong: that of THROW or BREAK, " + number);
             x.order(ROOT, THROW, number);
             x.order(SOLO, BREAK, number);
-            goesWrong(0, ROOT, READ, 1, number);
-            goesWrong(0, SOLO, READ, 2, number);
-            is("refused", x.probe(0, 8, READ), -1);
-            is("refused", x.probe(0, FIRM, MAKE), -1);
-            is("stays behind what is REFUSED", x.wrong(), number);
-            x.build(1);
-            is("stays behind build", x.wrong(), number);
-            probe(0, FIRM, READ, 53);
-            goesWrong(1, SOLO, READ, 2, number);
-            goesWrong(1, SOLO, READ, 3, 0);
-            goesWrong(1, ROOT, READ, 1, number);
-            probe(1, ROOT, 4, 500);
+            x.order(PLAIN, USE, KID);
+            x.order(LOOSE, USE, LEAF);
+            goesWrong(0, ROOT, READ, WRAPPED, number);
+            goesWrong(0, SOLO, READ, BROKEN, number);
+            goesWrong(1, LOOSE, READ, WRAPPED, number);
+            goesWrong(1, PLAIN, READ, BROKEN, number);
         }
-        fresh("7 wrong, of the last of several");
+        fresh("7 wrong: of the last of several");
         x.order(ROOT, TRY, SOLO);
         x.order(ROOT, USE, FIRM);
         x.order(SOLO, BREAK, 6);
         x.order(FIRM, THROW, 7);
-        goesWrong(0, ROOT, READ, 1, 7);
-        x.noOrders(FIRM);
-        probe(1, ROOT, READ, 5);
-        fresh("7 wrong, LOST behind a TRY");
+        goesWrong(0, ROOT, READ, WRAPPED, 7);
+    }
+
+    private static void wrongOfLostAndAnswered() {
+        fresh("7 wrong: 0 for LOST");
+        x.order(SOLO, BREAK, 6);
+        goesWrong(0, SOLO, READ, BROKEN, 6);
+        goesWrong(0, SOLO, READ, LOST, 0);
+        goesWrong(1, SOLO, READ, BROKEN, 6);
+        goesWrong(0, KID, READ, LOST, 0);
+        fresh("7 wrong: 0 for LOST, behind a TRY");
         x.order(SOLO, BREAK, 6);
         x.order(ROOT, TRY, SOLO);
         x.order(ROOT, USE, SOLO);
-        goesWrong(0, ROOT, READ, 3, 0);
+        goesWrong(0, ROOT, READ, LOST, 0);
+        events(0, 100, 103, 1206);
+        fresh("7 wrong: 0 if it was ANSWERED");
+        x.order(SOLO, BREAK, 6);
+        x.order(ROOT, TRY, SOLO);
+        goesWrong(0, SOLO, READ, BROKEN, 6);
+        probe(0, SOLO, CONSTANT, 503);
+        goesWrong(1, SOLO, READ, BROKEN, 6);
+        probe(1, ROOT, READ, 3);
+        x.build(0);
+        probe(0, ROOT, READ, 3);
         events(0, 100, 103, 1206);
     }
 
-    private static void promise8Events() {
-        fresh("8 events");
-        is("world 2", x.events(2), -1);
-        for (int wrong : OUTSIDE) {
-            is("world " + wrong, x.events(wrong), -1);
-        }
-        fillWithEvents();
-        is("all that a world can note", x.events(0), 48);
-        is("of the other world", x.events(1), 0);
-        probe(0, FIRM, READ, 56);
-        probe(0, PLAIN, READ, 118);
-        is("no more come", x.events(0), 48);
-        probe(1, SOLO, READ, 36);
-        is("of the other world", x.events(1), 6);
+    private static void wrongBehindRefused() {
+        fresh("7 wrong: of the last probe that was not REFUSED");
+        x.order(SOLO, BREAK, 6);
+        goesWrong(0, SOLO, READ, BROKEN, 6);
+        is("REFUSED", x.probe(0, FIRM, MAKE), REFUSED);
+        is("wrong() behind a manner not for the type", x.wrong(), 6);
+        is("REFUSED", x.probe(2, FIRM, READ), REFUSED);
+        is("REFUSED", x.probe(-1, FIRM, READ), REFUSED);
+        is("wrong() behind no world", x.wrong(), 6);
+        is("REFUSED", x.probe(0, 8, READ), REFUSED);
+        is("REFUSED", x.probe(0, -1, READ), REFUSED);
+        is("wrong() behind no type", x.wrong(), 6);
+        is("REFUSED", x.probe(0, FIRM, 14), REFUSED);
+        is("REFUSED", x.probe(0, FIRM, -1), REFUSED);
+        is("wrong() behind no manner", x.wrong(), 6);
         x.build(0);
-        is("anew", x.events(0), 0);
-        is("of the other world", x.events(1), 6);
+        x.noOrders(SOLO);
+        x.order(SOLO, THROW, 8);
+        is("wrong() behind other calls", x.wrong(), 6);
     }
 
-    private static void promise9Event() {
-        fresh("9 event");
-        is("world 2", x.event(2, 0), -1);
-        is("none yet", x.event(0, 0), -1);
-        fillWithEvents();
-        for (int wrong : OUTSIDE) {
-            is("world " + wrong, x.event(wrong, 0), -1);
-            is("event " + wrong, x.event(0, wrong), -1);
-        }
-        for (int i = 0; i < 32; i++) {
-            int type = IN_TURN[7 - i / 6];
-            int order = 5 - i % 6;
-            is("event " + i, x.event(0, i), order == 0 ? 100 + type : 1000 * type + order);
-        }
-        is("event 32, which is there, but too long ago", x.event(0, 32), -1);
-        is("event 47", x.event(0, 47), -1);
-        is("event 48", x.event(0, 48), -1);
-        is("of the other world", x.event(1, 0), -1);
-        x.noOrders(PLAIN);
-        x.order(PLAIN, NOTE, -1);
-        x.build(0);
-        is("none after build", x.event(0, 0), -1);
-        probe(0, PLAIN, READ, 72);
-        events(0, 107, -1);
-        is("behind the first", x.event(0, 2), -1);
-    }
+    // Promise 8: "How many EVENTS the world has noted; REFUSED for others."
 
-    /** Starts all eight types in turn, each with five NOTEs of its own: 48 events. */
-    private static void fillWithEvents() {
-        for (int type : IN_TURN) {
-            for (int n = 1; n <= 5; n++) {
-                x.order(type, NOTE, 1000 * type + n);
+    private static void eventsCounted() {
+        for (int world = 0; world < 2; world++) {
+            for (int count = 0; count <= MOST_EVENTS; count++) {
+                fresh("8 events: how many the world has noted, " + count);
+                noteEvents(world, count);
+                is("events(" + world + ")", x.events(world), count);
+                is("events of the other world", x.events(1 - world), 0);
             }
-            x.probe(0, type, READ);
+            for (int type = 0; type < 8; type++) {
+                x.probe(world, type, READ);
+            }
+            is("no more come", x.events(world), MOST_EVENTS);
+            probe(1 - world, SOLO, READ, 36);
+            is("events(" + world + ")", x.events(world), MOST_EVENTS);
+            is("events of the other world", x.events(1 - world), 6);
         }
     }
 
-    private static void fresh(String name) {
-        part = name;
-        x = new StartupProbes();
-    }
-
-    private static void is(String call, long got, long want) {
-        due.is(part + ": " + call, got, want);
-    }
-
-    private static void probe(int world, int type, int manner, int answer) {
-        String call = "probe(" + world + ", " + type + ", " + manner + ")";
-        is(call, x.probe(world, type, manner), 0);
-        is("answer() after " + call, x.answer(), answer);
-        is("wrong() after " + call, x.wrong(), 0);
-    }
-
-    private static void goesWrong(int world, int type, int manner, int outcome, int number) {
-        String call = "probe(" + world + ", " + type + ", " + manner + ")";
-        int answer = x.answer();
-        is(call, x.probe(world, type, manner), outcome);
-        is("wrong() after " + call, x.wrong(), number);
-        is("answer() after " + call, x.answer(), answer);
-    }
-
-    /** All events of a world, the first one first; no more than can be asked for. */
-    private static void events(int world, int... events) {
-        is("events(" + world + ")", x.events(world), events.length);
-        for (int i = 0; i < events.length; i++) {
-            is("event(" + world + ", " + i + ")", x.event(world, i), events[events.length - 1 - i]);
+    private static void eventsRefused() {
+        fresh("8 events: REFUSED for others");
+        for (int world : NO_WORLDS) {
+            refused("events(" + world + ")", probes -> probes.events(world));
         }
+        changesNothing("events(0)", inUse().events(0), probes -> probes.events(0));
+    }
+
+    // Promise 9: "The i-th last EVENT of the world (0 the last, to 31); REFUSED if there is none (an EVENT
+    // may be that too)."
+
+    private static void eventOfEachCount() {
+        for (int world = 0; world < 2; world++) {
+            for (int count = 0; count <= MOST_EVENTS; count++) {
+                fresh("9 event: with " + count + " noted");
+                int[] noted = noteEvents(world, count);
+                for (int i = -1; i <= MOST_EVENTS + 1; i++) {
+                    boolean isThere = i >= 0 && i <= 31 && i < count;
+                    int want = isThere ? noted[count - 1 - i] : REFUSED;
+                    is("event(" + world + ", " + i + ")", x.event(world, i), want);
+                }
+                is("event of the other world", x.event(1 - world, 0), REFUSED);
+            }
+        }
+    }
+
+    private static void eventMayBeRefusedToo() {
+        fresh("9 event: an EVENT may be that too");
+        x.order(PLAIN, NOTE, -1);
+        x.order(PLAIN, NOTE, 5);
+        x.order(PLAIN, GUARD, -1);
+        x.order(PLAIN, NOTE, -2);
+        probe(0, PLAIN, READ, 75);
+        events(0, 107, -1, 5, -2, -1);
+        is("behind the first", x.event(0, 5), REFUSED);
+    }
+
+    private static void eventRefused() {
+        fresh("9 event: REFUSED if there is none");
+        for (int world : NO_WORLDS) {
+            refused("event(" + world + ", 0)", probes -> probes.event(world, 0));
+            refused("event(" + world + ", 31)", probes -> probes.event(world, 31));
+        }
+        for (int i : new int[] {-1, 32, 33, 63, 64, -32, 256, 1 << 16, MIN, MAX}) {
+            refused("event(0, " + i + ")", probes -> probes.event(0, i));
+            refused("event(1, " + i + ")", probes -> probes.event(1, i));
+        }
+        changesNothing("event(0, 0)", inUse().event(0, 0), probes -> probes.event(0, 0));
     }
 }
