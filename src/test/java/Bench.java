@@ -214,4 +214,15 @@ abstract class Bench {
         changesNothing(name, REFUSED, call);
         is(name + " on a new object", call.on(newObject()), REFUSED);
     }
+
+    static boolean isFor(int type, int manner) {
+        return type <= KID || manner != MAKE && manner != WRITE && manner != MAKE_BY_REFLECTION;
+    }
+
+    static int[] joined(int[] first, int... then) {
+        int[] all = new int[first.length + then.length];
+        System.arraycopy(first, 0, all, 0, first.length);
+        System.arraycopy(then, 0, all, first.length, then.length);
+        return all;
+    }
 }

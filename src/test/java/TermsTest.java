@@ -1,6 +1,6 @@
 /**
- * The sentences of "What it is" and "Terms": what a new world holds, how types start, what the
- * orders do and what each manner of use answers, with the edges that the sentences name.
+ * The sentences of "Terms" from TO START on: how types start, what the orders do and what each
+ * manner of use answers, with the edges that the sentences name.
  */
 public final class TermsTest extends Bench {
     public static void main(String[] args) {
@@ -8,9 +8,6 @@ public final class TermsTest extends Bench {
     }
 
     private static void sentences() {
-        the512thCall();
-        programs();
-        statesAndValuesAtFirst();
         startOfNew();
         startOfDone();
         startOfUnderWay();
@@ -29,133 +26,6 @@ public final class TermsTest extends Bench {
         manners();
         mannersOfClasses();
         written();
-    }
-
-    // "An object is used for at most 512 calls after it has been made"
-
-    private static void the512thCall() {
-        the512thCall("order", 5, probes -> probes.order(ROOT, NOTE, 5));
-        the512thCall("order of a full program", FULL, probes -> probes.order(FIRM, NOTE, 6));
-        the512thCall("noOrders", 4, probes -> probes.noOrders(ROOT));
-        the512thCall("build", 0, probes -> probes.build(0));
-        the512thCall("probe of one DONE", ANSWERED, probes -> probes.probe(0, LEAF, CALL));
-        the512thCall("probe of one NEW", ANSWERED, probes -> probes.probe(1, LEAF, CALL));
-        the512thCall("probe that is WRAPPED", WRAPPED, probes -> probes.probe(1, PLAIN, CALL));
-        the512thCall("probe that is LOST", LOST, probes -> probes.probe(0, PLAIN, CALL));
-        the512thCall("probe that is REFUSED", REFUSED, probes -> probes.probe(0, PLAIN, MAKE));
-        the512thCall("answer", 101, Counted::answer);
-        the512thCall("wrong", 512, Counted::wrong);
-        the512thCall("events", 46, probes -> probes.events(0));
-        the512thCall("event 0", 74, probes -> probes.event(0, 0));
-        the512thCall("event 31", 13, probes -> probes.event(0, 31));
-        the512thCall("event 32", REFUSED, probes -> probes.event(0, 32));
-    }
-
-    private static void the512thCall(String name, int want, Calls last) {
-        fresh("at most 512 calls");
-        make511Calls();
-        is("calls before the last", x.callsLeft(), 1);
-        is(name + " as the 512th call", last.on(x), want);
-    }
-
-    /** Nearly as many orders as can be given, and then worlds that note as many events as they can. */
-    private static void make511Calls() {
-        for (int type = 0; type < 8; type++) {
-            for (int n = 1; n <= 4; n++) {
-                is("order", x.order(type, NOTE, 10 * type + n), n);
-            }
-        }
-        x.order(PLAIN, THROW, 512);
-        for (int type = MIDDLE; type < PLAIN; type++) {
-            is("order", x.order(type, NOTE, 10 * type + 5), 5);
-        }
-        is("events", x.events(1), 0);
-        is("event", x.event(1, 0), REFUSED);
-        is("a sixth order", x.order(PLAIN, NOTE, 6), FULL);
-        is("an interface cannot be made", x.probe(0, PLAIN, MAKE), REFUSED);
-        while (x.callsLeft() > 1) {
-            is("build", x.build(0), 0);
-            for (int type : IN_TURN) {
-                is("probe of " + type, x.probe(0, type, READ), type == PLAIN ? WRAPPED : ANSWERED);
-            }
-        }
-    }
-
-    // "A program is a row of at most 5 ORDERS (order, number), empty at first; it belongs to a type in both
-    // worlds."
-
-    private static void programs() {
-        for (int type = 0; type < 8; type++) {
-            programIsEmptyAtFirst(type);
-            programOfFive(type);
-            programInBothWorlds(type);
-            for (int place = 0; place < 5; place++) {
-                programKeepsItsPlaces(type, place);
-            }
-        }
-    }
-
-    private static void programIsEmptyAtFirst(int type) {
-        fresh("a program is empty at first, type " + type);
-        is("noOrders", x.noOrders(type), 0);
-        x.probe(0, type, READ);
-        events(0, FIRST_START[type]);
-    }
-
-    private static void programOfFive(int type) {
-        fresh("a program is a row of at most 5 orders, type " + type);
-        for (int n = 1; n <= 5; n++) {
-            is("order " + n, x.order(type, NOTE, 40 + n), n);
-        }
-        is("a sixth", x.order(type, NOTE, 46), FULL);
-        is("a sixth GUARD", x.order(type, GUARD, 47), FULL);
-        x.probe(0, type, READ);
-        events(0, joined(FIRST_START[type], 41, 42, 43, 44, 45));
-    }
-
-    private static void programInBothWorlds(int type) {
-        fresh("a program belongs to a type in both worlds, type " + type);
-        x.order(type, NOTE, 8);
-        for (int world = 0; world < 2; world++) {
-            x.probe(world, type, READ);
-            events(world, joined(FIRST_START[type], 8));
-        }
-        is("noOrders", x.noOrders(type), 1);
-        for (int world = 0; world < 2; world++) {
-            x.build(world);
-            x.probe(world, type, READ);
-            events(world, FIRST_START[type]);
-        }
-    }
-
-    private static void programKeepsItsPlaces(int type, int place) {
-        fresh("an order at place " + place + ", type " + type);
-        int[] noted = new int[place];
-        for (int n = 0; n < 5; n++) {
-            x.order(type, n == place ? BREAK : NOTE, 60 + n);
-            if (n < place) {
-                noted[n] = 60 + n;
-            }
-        }
-        goesWrong(0, type, READ, BROKEN, 60 + place);
-        events(0, joined(FIRST_START[type], noted));
-    }
-
-    // "a STATE (NEW at first ...), a VALUE (0 at first)"
-
-    private static void statesAndValuesAtFirst() {
-        for (int world = 0; world < 2; world++) {
-            for (int type = 0; type < 8; type++) {
-                fresh("NEW at first, type " + type + " of world " + world);
-                probe(world, type, READ, 10 * type + FIRST_START[type].length);
-                events(world, FIRST_START[type]);
-                events(1 - world);
-                fresh("VALUE is 0 at first, type " + type + " of world " + world);
-                x.order(type, USE, type);
-                x.probe(world, type, READ);
-                events(world, joined(FIRST_START[type], 0));
-            }
-        }
     }
 
     // "NEW: it is UNDER WAY. If it is a class: its superclass is started, if it has one; then, for each of its
@@ -627,16 +497,5 @@ public final class TermsTest extends Bench {
             probe(0, PLAIN, READ, 72 + events);
             is("event", x.event(0, 0), 7);
         }
-    }
-
-    private static boolean isFor(int type, int manner) {
-        return type <= KID || manner != MAKE && manner != WRITE && manner != MAKE_BY_REFLECTION;
-    }
-
-    private static int[] joined(int[] first, int... then) {
-        int[] all = new int[first.length + then.length];
-        System.arraycopy(first, 0, all, 0, first.length);
-        System.arraycopy(then, 0, all, first.length, then.length);
-        return all;
     }
 }
