@@ -252,6 +252,7 @@ public final class WorldsTest extends Bench {
             x.probe(1, type, READ);
         }
         events(1, 107, 106, 103, 105, 104, 100, 101, 102);
+        events(0, 105, 100, 101, 102, 103, 104, 106, 107);
         int[] values = {6, 17, 28, 33, 45, 54, 62, 71};
         for (int type = 0; type < 8; type++) {
             probe(1, type, READ, values[type]);
